@@ -41,6 +41,7 @@ public final class PromisesTest {
         checksums();
         truth();
         throwsChangeNothing();
+        fullHouse();
         System.out.println(checks + " checks, " + wrong + " wrong");
         if (wrong != 0) {
             System.exit(1);
@@ -814,5 +815,62 @@ public final class PromisesTest {
         fails("gains(0, 2)", INDEX, () -> x.gains(0, 2));
         is("the house after them", x.checksum(), before);
         is("what is typed after them", x.wipe(), 2);
+    }
+
+    /** Ten of everything, so that each row is full: no call may go beyond its end. */
+    private static void fullHouse() {
+        promise = 0;
+        Mostwell x = new Mostwell();
+        for (int i = 0; i < 10; i++) {
+            x.addApplicant(9);
+            x.addPost(4);
+        }
+        for (int a = 0; a < 10; a++) {
+            typeAll(x, "a>b>c>d>e>f>g>h=i=j");
+            x.tell(a);
+        }
+        for (int k = 0; k < 10; k++) {
+            for (int a = 0; a < 10; a++) {
+                assignOne(x, a, (a + k) % 10);
+            }
+            x.keep();
+        }
+        // each shift by one to four posts down is beaten by the one before it, a shift by five ties
+        fails("winner()", NONE, () -> x.winner());
+        is("differ(0, 9)", x.differ(0, 9), 10);
+        is("votes(0, 9)", x.votes(0, 9), 9);
+        is("votes(9, 0)", x.votes(9, 0), 63);
+        is("hasCycle()", x.hasCycle(), true);
+        is("margin(0, 5)", x.margin(0, 5), 0);
+        is("leadLength(1, 0)", x.leadLength(1, 0), 1);
+        is("leadLength(0, 1)", x.leadLength(0, 1), 3);
+        is("leadLength(1, 1)", x.leadLength(1, 1), 3);
+        is("meanRank()", x.meanRank(), 5.2);
+        is("matchedShare()", x.matchedShare(), 1.0f);
+        is("countEnvy()", x.countEnvy(), 42);
+        is("profile(8)", x.profile(8), 3);
+        is("bestProfile(1)", x.bestProfile(1), 4);
+        is("the best", bestOf(x, 10), "0 0 0 0 1 1 1 1 2 2");
+        is("isSure(9)", x.isSure(9), true);
+        is("gains(9, 0)", x.gains(9, 0), true);
+        is("gains(9, 9)", x.gains(9, 9), false);
+        is("worstMargin()", x.worstMargin(), 81);
+        is("the length of a text", x.textLength(9), 19);
+        is("take(9)", x.take(9), 10);
+        is("isTrue()", x.isTrue(), true);
+        fails("popularPost(9), two first choices having eight places", NONE, () -> x.popularPost(9));
+        typeAll(x, "j");
+        x.tell(8);
+        typeAll(x, "j=i");
+        x.tell(9);
+        is("the first popular one", popularOf(x, 10), "0 0 0 0 1 1 1 1 9 8");
+        fails("take(9), no matching by now", UNSUPPORTED, () -> x.take(9));
+        is("isTrue() then", x.isTrue(), true);
+    }
+
+    private static void assignOne(Mostwell x, int applicant, int post) {
+        if (x.postOf(applicant) != post) {
+            x.assign(applicant, post);
+        }
     }
 }
