@@ -684,7 +684,8 @@ public final class Mostwell {
      * The column behind the last post stands for none, which has room for all.
      */
     private static final class Sharing {
-        static final long CLOSED = Long.MIN_VALUE;
+        /** Less than any worth there is. */
+        static final long CLOSED = 1L << 63;
 
         final long[][] worth = new long[LIMIT][LIMIT + 1];
         final int[] column = new int[LIMIT];

@@ -9,7 +9,10 @@ import java.nio.file.Path;
 import java.util.ArrayList;
 import java.util.Arrays;
 import java.util.List;
+import java.util.Set;
 import java.util.TreeSet;
+import java.util.regex.Matcher;
+import java.util.regex.Pattern;
 
 /** The class has the document's face and no other member that is seen from outside, and keeps to rules that a scan can see. */
 public final class FaceTest {
@@ -19,6 +22,17 @@ public final class FaceTest {
         "->", "::", " finally", "synchronized", "assert ", "var ", "System.exit", "System.out", "Math.random",
         "catch", "try ", "Exact(", "hashCode", "toString", "Object ", ".getClass", "protected", "native", "import static",
         "java.util.*", "@Override", "@SuppressWarnings", "currentTimeMillis", "nanoTime", "Thread"};
+
+    /** What the program takes from the library, all of it listed in LANGUAGE.md; a new one is looked up there first. */
+    private static final Set<String> LIBRARY = Set.of(
+        "Arrays.fill", "System.arraycopy", "Integer.compare", "Math.min", "Math.max", "java.util");
+    private static final Pattern OF_LIBRARY = Pattern.compile(
+        "\\b((?:java|Arrays|System|Integer|Long|Math|Character|String|StringBuilder|List|ArrayList)\\.\\w+)");
+    private static final Set<String> IMPORTS = Set.of(
+        "import java.util.Arrays;", "import java.util.NoSuchElementException;");
+    private static final Pattern THROWN = Pattern.compile(
+        "throw new (IllegalState|IllegalArgument|IndexOutOfBounds|Arithmetic|UnsupportedOperation|NoSuchElement)"
+        + "Exception\\(\"[^\"]+\"\\);");
 
     private static int wrong = 0;
 
@@ -161,6 +175,7 @@ public final class FaceTest {
             if (text.startsWith("/**") || text.startsWith("*") || text.startsWith("//")) {
                 continue;
             }
+            checkLibrary(i + 1, text);
             for (String banned : BANNED) {
                 if (line.contains(banned)) {
                     report("line " + (i + 1) + " has " + banned);
@@ -177,6 +192,21 @@ public final class FaceTest {
                 report("line " + (i + 1) + ": a method of more than sixty lines");
                 since = i;
             }
+        }
+    }
+
+    private static void checkLibrary(int number, String text) {
+        Matcher matcher = OF_LIBRARY.matcher(text);
+        while (matcher.find()) {
+            if (!LIBRARY.contains(matcher.group(1))) {
+                report("line " + number + " takes from the library " + matcher.group(1));
+            }
+        }
+        if (text.startsWith("import ") && !IMPORTS.contains(text)) {
+            report("line " + number + " imports more: " + text);
+        }
+        if (text.contains("throw ") && !THROWN.matcher(text).matches()) {
+            report("line " + number + " throws in another form: " + text);
         }
     }
 }
